@@ -164,6 +164,10 @@ public final class CertificatesTest {
         due.is("24: name is refused", x.name(0, 1, 2, 0, 9), NONE);
         due.is("24: permit is refused", x.permit(OWNER, 2, true, 0, 9), NONE);
         due.is("24: certificates", x.certificates(), 24);
+        due.is("24: no number 24 to revoke", x.revoke(24), false);
+        due.is("24: no number 24 to tag", x.tag(24, 1, 0, 0), false);
+        due.is("24: no number 24 to begin with", x.begin(24), false);
+        due.is("24: no number 24 to follow", x.follow(24), false);
         due.is("24: revoke of the last", x.revoke(23), true);
         due.is("24: a revoked one makes no room for a name", x.name(0, 1, 2, 0, 9), NONE);
         due.is("24: a revoked one makes no room for a permission", x.permit(OWNER, 2, true, 0, 9), NONE);
