@@ -79,7 +79,7 @@ public final class MeaningTest {
 
     private static void promise9Refusals() {
         DelegationClosure x = new DelegationClosure();
-        for (int number = -300; number <= 300; number++) {
+        for (int number = -200; number <= 300; number++) {
             if (!Due.isSubject(number)) {
                 due.is("meant: " + number, x.meant(number, 0), NONE);
             } else if (number >= 8) {
