@@ -19,6 +19,14 @@ final class Due {
         }
     }
 
+    void is(String call, String got, String want) {
+        asked++;
+        if (!got.equals(want)) {
+            wrong++;
+            System.out.println(call + " answered " + got + ", due is " + want);
+        }
+    }
+
     int wrong() {
         return wrong;
     }
